@@ -1340,6 +1340,7 @@ public final class SpokenBooks {
         private final int[] minutes = new int[TITLES];
         private final int[] voices = new int[TITLES];
         private final int[] byRate = new int[TITLES];
+        private int rated;
         private int roomA;
         private int roomB;
         private int best;
@@ -1395,14 +1396,19 @@ public final class SpokenBooks {
             return wanted[t] * REQUEST_WORTH - minutes[t];
         }
 
+        /** Titles that have a voice are wanted, so that rates with no minutes at all still have an order. */
         private void sortByRate() {
+            rated = 0;
             for (int t = 0; t < TITLES; t++) {
-                int at = t;
-                for (int i = t; i > 0 && isDenser(t, byRate[i - 1]); i--) {
-                    byRate[i] = byRate[i - 1];
-                    at = i - 1;
+                if (voices[t] != 0) {
+                    int at = rated;
+                    for (int i = rated; i > 0 && isDenser(t, byRate[i - 1]); i--) {
+                        byRate[i] = byRate[i - 1];
+                        at = i - 1;
+                    }
+                    byRate[at] = t;
+                    rated++;
                 }
-                byRate[at] = t;
             }
         }
 
@@ -1414,9 +1420,9 @@ public final class SpokenBooks {
         private int mostFrom(int from, int room) {
             int sum = 0;
             int left = room;
-            for (int i = 0; i < TITLES; i++) {
+            for (int i = 0; i < rated; i++) {
                 int t = byRate[i];
-                if (t < from || voices[t] == 0) {
+                if (t < from) {
                     continue;
                 }
                 if (minutes[t] > left) {
