@@ -517,7 +517,7 @@ public final class SpokenBooks {
         }
 
         boolean rightHolds(int t, int today) {
-            return rightFrom[t] == NONE || within(today, rightFrom[t], rightTo[t]);
+            return rightFrom[t] == NONE || today >= rightFrom[t] && today <= rightTo[t];
         }
     }
 
@@ -563,24 +563,18 @@ public final class SpokenBooks {
             fault = 0;
             at = 0;
             toldLines = 0;
-            int lines = readLines();
-            length = 0;
-            return fault == 0 ? lines : -10 - place;
-        }
-
-        private int readLines() {
+            int lines = 0;
+            next();
             // a line has at least one byte, so there are no more lines than bytes
-            for (int lines = 0; lines < TAPE; lines++) {
-                next();
-                if (fault != 0 || kind == THE_END) {
-                    return lines;
-                }
+            for (int i = 0; i < TAPE && fault == 0 && kind != THE_END; i++) {
                 readLine();
-                if (fault != 0) {
-                    return lines;
+                if (fault == 0) {
+                    lines++;
+                    next();
                 }
             }
-            return TAPE;
+            length = 0;
+            return fault == 0 ? lines : -10 - place;
         }
 
         private void readLine() {
@@ -604,7 +598,7 @@ public final class SpokenBooks {
                 int number = readNumber(LEAST[word], MOST[word]);
                 if (fault == 0) {
                     rules.numbers[word] = number;
-                    readSign(';');
+                    readSign(';', ';');
                 }
             }
         }
@@ -628,52 +622,31 @@ public final class SpokenBooks {
             }
             rules.rightFrom[t] = from;
             rules.rightTo[t] = to;
-            readSign(';');
+            readSign(';', ';');
         }
 
         private void readKeys() {
             rules.keyCount = 0;
+            boolean more = true;
             // a key told twice is a fault, so the row of keys ends before this bound
-            for (int i = 0; i <= KEYS; i++) {
-                readKey();
-                if (fault != 0) {
-                    return;
-                }
-                next();
-                if (fault != 0 || kind == ';') {
-                    return;
-                }
-                if (kind != ',') {
-                    fault = MISPLACED;
-                    return;
-                }
+            for (int i = 0; i <= KEYS && more; i++) {
+                int way = readSign('+', '-');
+                readKey(way == '-');
+                more = readSign(',', ';') == ',';
             }
         }
 
-        private void readKey() {
+        private void readKey(boolean leastFirst) {
             next();
-            if (fault != 0) {
-                return;
-            }
-            if (kind != '+' && kind != '-') {
+            if (fault == 0 && (kind != WORD || value < LINE_WORDS)) {
                 fault = MISPLACED;
-                return;
             }
-            boolean leastFirst = kind == '-';
-            next();
-            if (fault != 0) {
-                return;
-            }
-            if (kind != WORD || value < LINE_WORDS) {
-                fault = MISPLACED;
-                return;
-            }
-            int key = value - LINE_WORDS;
-            if (rules.isKey(key)) {
+            if (fault == 0 && rules.isKey(value - LINE_WORDS)) {
                 fault = TWICE;
-                return;
             }
-            rules.addKey(key, leastFirst);
+            if (fault == 0) {
+                rules.addKey(value - LINE_WORDS, leastFirst);
+            }
         }
 
         /** The next token, a number of these bounds; 0 behind a fault. */
@@ -688,69 +661,72 @@ public final class SpokenBooks {
             return fault == 0 ? value : 0;
         }
 
-        private void readSign(int sign) {
+        /** The next token, one of two signs; 0 behind a fault. */
+        private int readSign(int sign, int other) {
             next();
-            if (fault == 0 && kind != sign) {
+            if (fault == 0 && kind != sign && kind != other) {
                 fault = MISPLACED;
             }
+            return fault == 0 ? kind : 0;
         }
 
-        /** Takes one token: its kind, its place (the length at the end), its value. */
+        /** Takes one token: its kind, its place (the length at the end), its value; none behind a fault. */
         private void next() {
+            if (fault != 0) {
+                return;
+            }
             for (int i = 0; i < TAPE && at < length && bytes[at] == ' '; i++) {
                 at++;
             }
             place = at;
-            if (at >= length || at >= TAPE) {
+            int first = at < length ? bytes[at] : THE_END;
+            if (at >= length) {
                 kind = THE_END;
-                return;
-            }
-            int sign = bytes[at];
-            if (within(sign, 'a', 'z')) {
+            } else if (isLetter(first)) {
                 nextWord();
-            } else if (within(sign, '0', '9')) {
+            } else if (isFigure(first)) {
                 nextNumber();
-            } else if (sign == '+' || sign == '-' || sign == ',' || sign == ';') {
-                kind = sign;
+            } else if (first == '+' || first == '-' || first == ',' || first == ';') {
+                kind = first;
                 at++;
             } else {
                 fault = NO_TOKEN;
             }
         }
 
-        private void nextWord() {
-            for (int i = 0; i < TAPE && at < length && within(bytes[at], 'a', 'z'); i++) {
-                at++;
-            }
-            kind = WORD;
-            for (int word = 0; word < WORDS; word++) {
-                if (spells(word)) {
-                    value = word;
-                    return;
-                }
-            }
-            fault = NO_TOKEN;
+        private static boolean isLetter(int sign) {
+            return sign >= 'a' && sign <= 'z';
         }
 
-        /** Whether the bytes from place to at are this word: shorter words end in blanks. */
-        private boolean spells(int word) {
-            int letters = at - place;
-            if (letters > SLOT) {
-                return false;
+        private static boolean isFigure(int sign) {
+            return sign >= '0' && sign <= '9';
+        }
+
+        private void nextWord() {
+            for (int i = 0; i < TAPE && at < length && isLetter(bytes[at]); i++) {
+                at++;
             }
-            for (int i = 0; i < SLOT; i++) {
-                int letter = i < letters ? bytes[place + i] : ' ';
-                if (letter != SPELLED.charAt(word * SLOT + i)) {
-                    return false;
+            int letters = at - place;
+            kind = WORD;
+            value = NONE;
+            for (int word = 0; word < WORDS && letters <= SLOT; word++) {
+                int same = 0;
+                // behind a shorter word its slot has blanks, which no letter is like
+                for (int i = 0; i < SLOT && same == i; i++) {
+                    int letter = i < letters ? bytes[place + i] : ' ';
+                    same += letter == SPELLED.charAt(word * SLOT + i) ? 1 : 0;
+                }
+                if (same == SLOT) {
+                    value = word;
                 }
             }
-            return true;
+            fault = value == NONE ? NO_TOKEN : 0;
         }
 
         private void nextNumber() {
             kind = NUMBER;
             value = 0;
-            for (int i = 0; i < TAPE && at < length && within(bytes[at], '0', '9'); i++) {
+            for (int i = 0; i < TAPE && at < length && isFigure(bytes[at]); i++) {
                 if (i < MOST_FIGURES) {
                     value = value * 10 + bytes[at] - '0';
                 }
