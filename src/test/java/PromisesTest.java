@@ -70,6 +70,7 @@ public final class PromisesTest {
         for (promise = 1; promise <= promises.length; promise++) {
             promises[promise - 1].run();
         }
+        fullHouse();
         System.out.println(asked + " answers, " + wrong + " not as due");
         if (wrong != 0) {
             System.exit(1);
@@ -174,6 +175,9 @@ public final class PromisesTest {
         for (int i = 0; i < 5; i++) {
             is("rule(" + (10 + i) + ")", x.rule(10 + i), 14 - i);
         }
+        is("an empty text", x.rules(), 0);
+        is("an empty text tells that nothing is told", x.rule(10), 0);
+        is("an empty text tells one key", x.rule(5), 1);
         is("a full tape", tell(x, "right 0 1 2;right 1 1 2;right 2 1 2;right 3 1 2;right 4 1 2;right 5 1 2;right 6 1 2;"
             + "right 7 1 2;right 8 1 2;right 9 1 2;right 10 1 2;right 11 1 2;loan 1;lag 1;days 1;life 1;again 1;queue +had;  "), 18);
         is("rule(51)", x.rule(51), 2);
@@ -190,6 +194,9 @@ public final class PromisesTest {
         faulty("  loanloan 1;", 1, 2);
         faulty("loan day;", 1, 5);
         faulty("waitedx", 1, 0);
+        faulty("moan 1;", 1, 0);
+        faulty("queue +numbex;", 1, 7);
+        faulty("queue +hat;", 1, 7);
         faulty("lo", 1, 0);
         faulty("loan /", 1, 5);
         faulty("loan :", 1, 5);
@@ -534,6 +541,14 @@ public final class PromisesTest {
         is("4 of another", x.told(1, 4), 0);
         x.unask(x.ask(1, 0));
         is("5 taken back", x.told(1, 5), 0);
+        x.copy(0);
+        x.ask(1, 0);
+        days(x, 93);
+        is("THE DAY", x.count(7), 98);
+        x.ask(1, 1);
+        x.serve();
+        x.day();
+        is("3 on the last day", x.told(1, 3), 2);
         is("what 8", x.told(0, 8), BAD);
         is("what -1", x.told(0, -1), BAD);
         is("listener 2", x.told(2, 0), BAD);
@@ -1098,6 +1113,52 @@ public final class PromisesTest {
         is("title 2", x.known(2, 0), BAD);
         is("title -1", x.known(-1, 0), BAD);
         is("title -5", x.known(-5, 0), BAD);
+    }
+
+    /** Every table filled to its end, then every call of every table's last and next row. */
+    private static void fullHouse() {
+        SpokenBooks x = house(12);
+        tell(x, "lag 0;loan 6;queue +late,-had,+likes,-waited,+number;");
+        x.reader(0);
+        x.reader(0);
+        for (int i = 0; i < 24; i++) {
+            x.copy(i % 12);
+        }
+        for (int l = 0; l < 10; l++) {
+            x.listener(15, 1 << l % 8);
+        }
+        for (int r = 0; r < 30; r++) {
+            x.ask(r % 10, (r + r / 10 * 3) % 12);
+        }
+        for (int t = 0; t < 12; t++) {
+            for (int i = 1; i < 8; i++) {
+                x.side(t, 90);
+            }
+        }
+        for (int e = 0; e < 40; e++) {
+            x.error(e % 12, 7, e, 1 + e % 3);
+        }
+        int[] full = {6, 12, 24, 10, 30, 30, 40};
+        for (int what = 0; what < full.length; what++) {
+            is("full: count(" + what + ")", x.count(what), full[what]);
+        }
+        is("full: program", x.program(4095, 40, 15, 40, 15, 0), 18);
+        is("full: parcels", x.parcels(0), 24);
+        is("full: all", x.all(11, 0), 3);
+        is("full: habit", x.habit(0, 0), 2);
+        is("full: habit, by", x.habit(0, 1), 401);
+        is("full: habit of nothing", x.habit(5, 1), 1);
+        is("full: queue", x.queue(11, 0), 29);
+        int out = x.serve();
+        is("full: served", x.count(5), 30 - out);
+        is("full: with", x.count(8), out);
+        is("full: led", Integer.bitCount(x.led(39, 0)), x.titleOf(3, 5) - x.titleOf(3, 6));
+        is("full: known", x.known(NONE, 0), 40);
+        is("full: titleOf", x.titleOf(11, 17), 90);
+        is("full: copyOf", x.copyOf(24, 0), BAD);
+        is("full: request", x.request(30, 0), BAD);
+        is("full: errorOf", x.errorOf(40, 0), BAD);
+        is("full: told", x.told(10, 0), BAD);
     }
 
     private static void sheet() {
