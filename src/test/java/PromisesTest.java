@@ -181,6 +181,12 @@ public final class PromisesTest {
         is("a full tape", tell(x, "right 0 1 2;right 1 1 2;right 2 1 2;right 3 1 2;right 4 1 2;right 5 1 2;right 6 1 2;"
             + "right 7 1 2;right 8 1 2;right 9 1 2;right 10 1 2;right 11 1 2;loan 1;lag 1;days 1;life 1;again 1;queue +had;  "), 18);
         is("rule(51)", x.rule(51), 2);
+        is("200 blanks", tell(x, " ".repeat(200)), 0);
+        is("a line that ends with the tape", tell(x, " ".repeat(193) + "loan 5;"), 1);
+        is("rule(0)", x.rule(0), 5);
+        is("200 letters", tell(x, "a".repeat(200)), -10);
+        is("200 figures", tell(x, "1".repeat(200)), -10);
+        is("a word that ends with the tape", tell(x, " ".repeat(196) + "loan"), -210);
         is("the first bounds", tell(x, "loan 1;days 1;lag 0;life 1;again 0;"), 5);
     }
 
