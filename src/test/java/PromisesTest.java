@@ -1160,6 +1160,7 @@ public final class PromisesTest {
         is("full: with", x.count(8), out);
         is("full: led", Integer.bitCount(x.led(39, 0)), x.titleOf(3, 5) - x.titleOf(3, 6));
         is("full: known", x.known(NONE, 0), 40);
+        is("full: a day", x.day(), 0);
         is("full: titleOf", x.titleOf(11, 17), 90);
         is("full: copyOf", x.copyOf(24, 0), BAD);
         is("full: request", x.request(30, 0), BAD);
