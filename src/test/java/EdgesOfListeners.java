@@ -348,6 +348,10 @@ final class EdgesOfListeners extends Edges {
             tell(w, "lag 0;loan 6;queue " + keys[i] + ";");
             line(w, keys[i], 0, due[i]);
         }
+        for (int i = 0; i < 4; i++) {
+            tell(w, i < 2 ? "queue +likes,+number;" : "loan 6;queue +likes;");
+        }
+        line(w, "a key that was told before is none", 0, 3, 5, 7, 2, 4, 6);
     }
 
     private static void termsOfDays() {
@@ -593,6 +597,16 @@ final class EdgesOfListeners extends Edges {
         tell(x, "days 2;");
         tolds(x, "of more days", 1, 1, 0);
         is("the other has", x.told(1, 2), 1);
+        SpokenBooks last = house("lag 1;loan 6;", 2, 1, 1);
+        days(last, 97);
+        last.ask(0, 0);
+        last.serve();
+        last.day();
+        tolds(last, "one came on day 98", 1, 1, 0);
+        last.ask(0, 1);
+        last.serve();
+        last.day();
+        tolds(last, "one came on day 99", 2, 2, 0);
 
         says(16, "5 REQUESTS that WAIT,");
         is("none", x.told(0, 5), 0);
@@ -603,6 +617,10 @@ final class EdgesOfListeners extends Edges {
         is("the other's", x.told(1, 5), 1);
         x.unask(5);
         is("one taken back", x.told(0, 5), 1);
+        SpokenBooks first = house("", 1, 0, 2);
+        first.ask(0, 0);
+        is("the first of all", first.told(0, 5), 1);
+        is("none of the other", first.told(1, 5), 0);
 
         says(16, "6 COPIES that came so far,");
         is("four, wherever they are now", x.told(0, 6), 4);

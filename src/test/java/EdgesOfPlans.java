@@ -116,11 +116,33 @@ final class EdgesOfPlans extends Edges {
         both.listener(3, 1);
         both.listener(3, 1);
         pairs(both, "both like the same", 2, 1);
+        SpokenBooks one = tongues("loan 1;");
+        one.listener(1, 1);
+        one.listener(1, 0);
+        pairs(one, "who likes it comes first", 1, 1);
+        SpokenBooks other = tongues("loan 1;");
+        other.listener(1, 0);
+        other.listener(1, 1);
+        pairs(other, "whoever that is", 1, 1);
         SpokenBooks less = tongues("loan 1;");
         less.listener(15, 1);
         less.listener(1, 1);
         less.listener(2, 2);
         pairs(less, "the liked one goes to who can have no other", 3, 2);
+        SpokenBooks shifts = tongues("loan 1;");
+        for (int t = 0; t < 4; t++) {
+            shifts.copy(t);
+        }
+        int[] theirTongues = {3, 3, 6, 6, 12, 12, 8, 8, 8};
+        int[] theirLikes = {2, 2, 4, 4, 8, 8, 0, 0, 0};
+        int[] mostPairs = {1, 2, 3, 4, 5, 6, 7, 8, 8};
+        int[] mostLiked = {1, 2, 3, 4, 5, 6, 3, 0, 0};
+        for (int l = 0; l < theirTongues.length; l++) {
+            shifts.listener(theirTongues[l], theirLikes[l]);
+            pairs(shifts, "two of each title, " + (l + 1) + " listeners", mostPairs[l], mostLiked[l]);
+        }
+        tell(shifts, "loan 2;");
+        pairs(shifts, "two of each title, two for each", 8, 6);
         SpokenBooks kins = house("loan 6;", 12, 1, 0);
         kins.listener(1, 1);
         pairs(kins, "titles 0 and 8 are of kin 0", 6, 2);
@@ -286,6 +308,27 @@ final class EdgesOfPlans extends Edges {
         is("tongues of A", x.program(7, 1, 4, 1, 2, 1), 90);
         is("tongues of B", x.program(7, 1, 1, 1, 4, 1), 100);
         is("an empty house", new SpokenBooks().program(0, 40, 15, 40, 15, 1), 0);
+
+        SpokenBooks now = wanted(new int[] {60, 50}, new int[] {1, 2});
+        plan(now, 3, voices(1, 1, 0, 1), 2, 50, 0, 1);
+        now.ask(8, 0);
+        now.ask(9, 0);
+        plan(now, 3, voices(1, 1, 0, 1), 3, 60, 1, 0);
+        plan(now, 2, voices(1, 1, 0, 1), 2, 50, 0, 1);
+        now.side(0, 1);
+        plan(now, 3, voices(1, 1, 0, 1), 2, 50, 0, 1);
+        now.title(0, 0, 0);
+        now.ask(0, 2);
+        plan(now, 7, voices(1, 1, 0, 1), 3, 50, 0, 1, 1);
+        now.side(2, 10);
+        plan(now, 7, voices(1, 1, 0, 1), 3, 60, 0, 1, 1);
+        now.side(2, 1);
+        plan(now, 7, voices(1, 1, 0, 1), 2, 50, 0, 1, 0);
+        plan(now, 7, voices(1, 1, 1, 1), 3, 61, 0, 1, 2);
+        now.unask(1);
+        plan(now, 7, voices(1, 1, 1, 1), 2, 61, 0, 1, 2);
+        now.unask(2);
+        plan(now, 7, voices(1, 1, 1, 1), 1, 11, 0, 0, 1);
 
         says(25, "10 and t: who reads TITLE t (0 nobody, 1 A, 2 B).");
         is("A", x.program(7, 1, 1, 1, 2, 10), 1);

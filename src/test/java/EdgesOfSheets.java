@@ -309,6 +309,12 @@ final class EdgesOfSheets extends Edges {
             is("count(" + what + ")", x.count(what), due[what]);
         }
 
+        SpokenBooks first = house("", 1, 0, 1);
+        first.ask(0, 0);
+        is("the first waits", first.count(5), 1);
+        first.unask(0);
+        is("it was taken back", first.count(5), 0);
+
         says(35, "8 COPIES WITH LISTENERS, 9 WORN OUT, 10 LOST,");
         counts(x, "six on the way out", 0, 0, 0);
         x.day();

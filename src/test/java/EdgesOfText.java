@@ -279,6 +279,11 @@ final class EdgesOfText extends Edges {
         x.end(6);
         is("the end where the tape was cut", x.rules(), -16);
         is("its fault", x.fault(), 2);
+        cut("life 12;", 6, 2, 6);
+        cut("loan 1", 3, 1, 0);
+        cut("loan      ", 6, 2, 6);
+        cut("loan 1;;", 7, 0, 0);
+        cut("right 1 1 9991", 13, 2, 13);
 
         says(TERMS, "3 a NUMBER out of its bounds.");
         faulty("loan  7;", 3, 6);
@@ -297,6 +302,15 @@ final class EdgesOfText extends Edges {
         faulty("queue +had,-had;", 4, 12);
         faulty("queue -number,+waited,-number;", 4, 23);
         faulty("queue +waited,+had,+late,+likes,+number,+waited;", 4, 41);
+    }
+
+    /** A text that was cut behind n bytes, with what comes of it; the bytes behind are not read. */
+    private static void cut(String text, int n, int fault, int place) {
+        SpokenBooks x = new SpokenBooks();
+        write(x, text);
+        x.end(n);
+        is("rules() of '" + text + "' cut to " + n, x.rules(), fault == 0 ? 1 : -10 - place);
+        is("fault() of '" + text + "' cut to " + n, x.fault(), fault);
     }
 
     private static void untold() {
