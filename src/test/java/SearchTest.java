@@ -16,10 +16,10 @@ public final class SearchTest {
 
     public static void main(String[] args) {
         longChain();
-        for (int run = 0; run < 4000; run++) {
+        for (int run = 0; run < 10000; run++) {
             parcels(new Random(run), run);
         }
-        for (int run = 0; run < 1000; run++) {
+        for (int run = 0; run < 2000; run++) {
             program(new Random(run), run);
         }
         System.out.println(asked + " answers, " + wrong + " not as due");
@@ -81,60 +81,81 @@ public final class SearchTest {
             x.listener(1 + random.nextInt(15), random.nextInt(256));
         }
         tell(x, "lag 0;loan 6;");
-        for (int r = 0; r < 30; r++) {
-            x.ask(random.nextInt(listeners), random.nextInt(titles));
+        for (int round = 0; round < 5; round++) {
+            for (int r = 0; r < 6; r++) {
+                x.ask(random.nextInt(listeners), random.nextInt(titles));
+            }
             x.serve();
-            for (int c = 0; c < 24; c++) {
+            for (int c = 0; c < 18; c++) {
                 if (random.nextInt(30) > 0) {
                     x.back(c);
                 }
             }
         }
         tell(x, "loan " + loan + ";");
-        int[] left = new int[listeners];
-        for (int l = 0; l < listeners; l++) {
-            left[l] = Math.max(0, loan - x.told(l, 2));
-        }
-        int best = bestPairs(x, left, titles);
+        int best = new Pairs(x, listeners, titles, loan).best();
         is("run " + run + ": parcels(0)", x.parcels(0), best / 1000);
         is("run " + run + ": parcels(1)", x.parcels(1), best % 1000);
     }
 
-    /** Title by title, for all that may be left to the listeners: 1000 times the pairs and the liked ones. */
-    private static int bestPairs(SpokenBooks x, int[] left, int titles) {
-        int[] radix = new int[left.length + 1];
-        radix[0] = 1;
-        for (int l = 0; l < left.length; l++) {
-            radix[l + 1] = radix[l] * (left[l] + 1);
-        }
-        int[] best = new int[radix[left.length]];
-        Arrays.fill(best, -1);
-        best[radix[left.length] - 1] = 0;
-        for (int t = 0; t < titles; t++) {
-            int[] then = new int[best.length];
-            Arrays.fill(then, -1);
-            for (int bits = 0; bits < 1 << left.length; bits++) {
-                int worth = worth(x, t, bits);
-                for (int state = 0; worth >= 0 && state < best.length; state++) {
-                    int next = best[state] < 0 ? -1 : after(state, bits, radix, left);
-                    if (next >= 0) {
-                        then[next] = Math.max(then[next], best[state] + worth);
-                    }
+    /** All choices of pairs; what the object says is asked once, as it is used for 512 calls. */
+    private static final class Pairs {
+        private final int[] left, inHouse;
+        private final int[][] worth;
+
+        Pairs(SpokenBooks x, int listeners, int titles, int loan) {
+            left = new int[listeners];
+            inHouse = new int[titles];
+            worth = new int[listeners][titles];
+            for (int t = 0; t < titles; t++) {
+                inHouse[t] = x.titleOf(t, 6);
+            }
+            for (int l = 0; l < listeners; l++) {
+                left[l] = Math.max(0, loan - x.told(l, 2));
+                int likes = x.told(l, 1);
+                for (int t = 0; t < titles; t++) {
+                    worth[l][t] = x.may(l, t) == 0 ? -1 : 1000 + (likes >> x.titleOf(t, 1) & 1);
                 }
             }
-            best = then;
         }
-        return Arrays.stream(best).max().orElse(0);
-    }
 
-    private static int worth(SpokenBooks x, int t, int bits) {
-        int worth = Integer.bitCount(bits) > x.titleOf(t, 6) ? -1 : 0;
-        for (int l = 0; worth >= 0 && bits >> l != 0; l++) {
-            if ((bits >> l & 1) != 0) {
-                worth = x.may(l, t) == 0 ? -1 : worth + 1000 + (x.told(l, 1) >> x.titleOf(t, 1) & 1);
+        /** Title by title, for all that may be left to the listeners: 1000 times the pairs and the liked ones. */
+        int best() {
+            int[] radix = new int[left.length + 1];
+            radix[0] = 1;
+            for (int l = 0; l < left.length; l++) {
+                radix[l + 1] = radix[l] * (left[l] + 1);
             }
+            int[] best = new int[radix[left.length]];
+            Arrays.fill(best, -1);
+            best[radix[left.length] - 1] = 0;
+            for (int t = 0; t < inHouse.length; t++) {
+                int[] then = new int[best.length];
+                Arrays.fill(then, -1);
+                for (int bits = 0; bits < 1 << left.length; bits++) {
+                    int worth = worth(t, bits);
+                    for (int state = 0; worth >= 0 && state < best.length; state++) {
+                        int next = best[state] < 0 ? -1 : after(state, bits, radix, left);
+                        if (next >= 0) {
+                            then[next] = Math.max(then[next], best[state] + worth);
+                        }
+                    }
+                }
+                best = then;
+            }
+            return Arrays.stream(best).max().orElse(0);
         }
-        return worth;
+
+        /** What a title's going to these listeners (bits) is worth; -1: it can not. */
+        private int worth(int t, int bits) {
+            int sum = Integer.bitCount(bits) > inHouse[t] ? -1 : 0;
+            for (int l = 0; sum >= 0 && bits >> l != 0; l++) {
+                if ((bits >> l & 1) != 0) {
+                    sum = worth[l][t] < 0 ? -1 : sum + worth[l][t];
+                }
+            }
+            return sum;
+        }
     }
 
     private static int after(int state, int bits, int[] radix, int[] left) {
@@ -180,19 +201,21 @@ public final class SearchTest {
     private static final class Rows {
         private final SpokenBooks x;
         private final int bits;
-        private final int[] voices, wanted, minutes, row, best, left;
+        private final int[] voices, tongue, wanted, minutes, row, best, left;
         private int bestWanted = -1, bestMinutes;
 
         Rows(SpokenBooks x, int titles, int bits, int[] voices) {
             this.x = x;
             this.bits = bits;
             this.voices = voices;
+            tongue = new int[titles];
             wanted = new int[titles];
             minutes = new int[titles];
             row = new int[titles];
             best = new int[titles];
             left = new int[] {voices[0] * 60, voices[2] * 60};
             for (int t = 0; t < titles; t++) {
+                tongue[t] = x.titleOf(t, 0);
                 wanted[t] = x.titleOf(t, 7);
                 minutes[t] = x.titleOf(t, 4);
             }
@@ -223,7 +246,7 @@ public final class SearchTest {
             row[t] = 0;
             choose(t + 1, sum, length);
             for (int v = 0; v < 2 && (bits >> t & 1) != 0; v++) {
-                if ((voices[2 * v + 1] >> x.titleOf(t, 0) & 1) != 0 && minutes[t] <= left[v]) {
+                if ((voices[2 * v + 1] >> tongue[t] & 1) != 0 && minutes[t] <= left[v]) {
                     row[t] = v + 1;
                     left[v] -= minutes[t];
                     choose(t + 1, sum + wanted[t], length + minutes[t]);
