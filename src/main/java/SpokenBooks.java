@@ -1304,14 +1304,17 @@ public final class SpokenBooks {
     }
 
     /**
-     * Which titles two voices read. What a row of choices is worth is one number: its requests, each
-     * above all minutes there can be, less its minutes. First the best worth is sought, then the
-     * least row that has it. What was solved stays until the task changes.
+     * Which titles two voices read. What a choice of titles is worth is one number: its requests, each
+     * above all minutes there can be, less its minutes. A choice that is worth as much as the best one
+     * so far is laid out as a row of voices, if they have room for it; of equal ones the least row
+     * stays. What was solved stays until the task changes.
      */
     private static final class Program {
         private static final int REQUEST_WORTH = 10000;
 
         final int[] who = new int[TITLES];
+        private final int[] row = new int[TITLES];
+        private final boolean[] chosen = new boolean[TITLES];
         private final int[] wanted = new int[TITLES];
         private final int[] minutes = new int[TITLES];
         private final int[] voices = new int[TITLES];
@@ -1346,9 +1349,9 @@ public final class SpokenBooks {
                 return;
             }
             sortByRate();
+            // below the choice of no title, which can always be read
             best = -1;
-            seek(this, 0, 0, roomA, roomB);
-            settle(this, 0, 0, roomA, roomB);
+            seek(this, 0, 0, roomA + roomB);
             solved = true;
         }
 
@@ -1392,15 +1395,12 @@ public final class SpokenBooks {
             return wanted[t] * minutes[other] > wanted[other] * minutes[t];
         }
 
-        /** No choice among the titles from this one on is worth more in so many minutes: one may be cut. */
-        private int mostFrom(int from, int room) {
+        /** No choice among the titles from a rank on is worth more in so many minutes: one may be cut. */
+        private int mostFrom(int rank, int room) {
             int sum = 0;
             int left = room;
-            for (int i = 0; i < rated; i++) {
+            for (int i = rank; i < rated; i++) {
                 int t = byRate[i];
-                if (t < from) {
-                    continue;
-                }
                 if (minutes[t] > left) {
                     return minutes[t] > 0 ? sum + (int) ((long) worth(t) * left / minutes[t]) : sum;
                 }
@@ -1410,46 +1410,62 @@ public final class SpokenBooks {
             return sum;
         }
 
+        /** Chooses or leaves the titles from a rank on, which ends with the last of them. */
+        private static void seek(Program p, int rank, int sum, int room) {
+            if (sum + p.mostFrom(rank, room) < p.best) {
+                return;
+            }
+            if (rank >= p.rated) {
+                p.offer(sum);
+                return;
+            }
+            int t = p.byRate[rank];
+            if (p.minutes[t] <= room) {
+                p.chosen[t] = true;
+                seek(p, rank + 1, sum + p.worth(t), room - p.minutes[t]);
+                p.chosen[t] = false;
+            }
+            seek(p, rank + 1, sum, room);
+        }
+
+        /** Takes the chosen titles, worth no less than the best so far, if the voices can read them. */
+        private void offer(int sum) {
+            if (layRow(this, 0, roomA, roomB) && (sum > best || isLeastRow())) {
+                best = sum;
+                for (int t = 0; t < TITLES; t++) {
+                    who[t] = row[t];
+                }
+            }
+        }
+
+        private boolean isLeastRow() {
+            for (int t = 0; t < TITLES; t++) {
+                if (row[t] != who[t]) {
+                    return row[t] < who[t];
+                }
+            }
+            return false;
+        }
+
+        /** Lays the least row in which the chosen titles from this one on are read: whether there is one. */
+        private static boolean layRow(Program p, int t, int a, int b) {
+            if (t >= TITLES) {
+                return true;
+            }
+            if (!p.chosen[t]) {
+                p.row[t] = 0;
+                return layRow(p, t + 1, a, b);
+            }
+            p.row[t] = 1;
+            if (p.canRead(1, t, a) && layRow(p, t + 1, a - p.minutes[t], b)) {
+                return true;
+            }
+            p.row[t] = 2;
+            return p.canRead(2, t, b) && layRow(p, t + 1, a, b - p.minutes[t]);
+        }
+
         private boolean canRead(int voice, int t, int room) {
             return (voices[t] & voice) != 0 && minutes[t] <= room;
-        }
-
-        /** Raises best to the best worth of all rows; ends behind the last title. */
-        private static void seek(Program p, int t, int sum, int a, int b) {
-            if (sum + p.mostFrom(t, a + b) <= p.best) {
-                return;
-            }
-            if (t >= TITLES) {
-                p.best = sum;
-                return;
-            }
-            if (p.canRead(1, t, a)) {
-                seek(p, t + 1, sum + p.worth(t), a - p.minutes[t], b);
-            }
-            if (p.canRead(2, t, b)) {
-                seek(p, t + 1, sum + p.worth(t), a, b - p.minutes[t]);
-            }
-            seek(p, t + 1, sum, a, b);
-        }
-
-        /** Lays the least row of the best worth: whether there is one behind the choices made. */
-        private static boolean settle(Program p, int t, int sum, int a, int b) {
-            if (sum + p.mostFrom(t, a + b) < p.best) {
-                return false;
-            }
-            if (t >= TITLES) {
-                return true;
-            }
-            p.who[t] = 0;
-            if (settle(p, t + 1, sum, a, b)) {
-                return true;
-            }
-            p.who[t] = 1;
-            if (p.canRead(1, t, a) && settle(p, t + 1, sum + p.worth(t), a - p.minutes[t], b)) {
-                return true;
-            }
-            p.who[t] = 2;
-            return p.canRead(2, t, b) && settle(p, t + 1, sum + p.worth(t), a, b - p.minutes[t]);
         }
     }
 
