@@ -28,6 +28,7 @@ public final class ReadmeTest {
     public static void main(String[] args) throws Exception {
         String page = Files.readString(README);
         runExamples(page);
+        readAllLines(page);
         nameAllCalls(page);
         nameAllTests(page);
         must(examples >= LEAST_EXAMPLES, "only " + examples + " answers of examples were found");
@@ -117,6 +118,19 @@ public final class ReadmeTest {
             Files.delete(file);
         }
         Files.delete(dir);
+    }
+
+    /** Every line of the table of rules can be told, and what holds where it is not told is what the page says. */
+    private static void readAllLines(String page) {
+        List<String> numbers = List.of("loan", "days", "lag", "life", "again");
+        int rows = 0;
+        Pattern row = Pattern.compile("(?m)^\\| `([a-z]+) ([^`]*;)` +\\|.*\\| +(\\S.*?) +\\|$");
+        for (Matcher m = row.matcher(page); m.find(); rows++) {
+            must(Edges.tell(new SpokenBooks(), m.group(1) + " " + m.group(2)) == 1, "no line: " + m.group());
+            int which = numbers.indexOf(m.group(1));
+            must(which < 0 || m.group(3).equals("" + new SpokenBooks().rule(which)), "not so: " + m.group());
+        }
+        must(rows == numbers.size() + 2, rows + " lines of rules stand in the table");
     }
 
     /** The table of calls has every method of the face, with as many arguments as it takes, and no other. */
